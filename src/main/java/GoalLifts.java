@@ -50,7 +50,7 @@ public final class GoalLifts {
         if (house.cars.count >= MAX_CARS) {
             return CAPACITY_EXCEEDED;
         }
-        history.record(house);
+        history.keep(house);
         return house.cars.add(lowest, highest, places);
     }
 
@@ -58,7 +58,7 @@ public final class GoalLifts {
         if (hour < 0 || hour >= HOURS || cars < 1 || cars > MAX_CARS) {
             return INVALID_ARGUMENT;
         }
-        history.record(house);
+        history.keep(house);
         int previous = house.awake[hour];
         house.awake[hour] = cars;
         return previous;
@@ -73,7 +73,7 @@ public final class GoalLifts {
         if (state == FAILED || state == wanted) {
             return ILLEGAL_STATE;
         }
-        history.record(house);
+        history.keep(house);
         house.cars.state[car] = wanted;
         return house.callers.numberWith(car);
     }
@@ -85,7 +85,7 @@ public final class GoalLifts {
         if (house.cars.state[car] == FAILED) {
             return ILLEGAL_STATE;
         }
-        history.record(house);
+        history.keep(house);
         house.breakCar(car);
         return house.callers.numberIn(LOOKING);
     }
@@ -97,7 +97,7 @@ public final class GoalLifts {
         if (house.cars.state[car] != FAILED) {
             return ILLEGAL_STATE;
         }
-        history.record(house);
+        history.keep(house);
         house.cars.state[car] = READY;
         return house.cars.floor[car];
     }
@@ -111,7 +111,7 @@ public final class GoalLifts {
         if (house.callers.count >= MAX_CALLERS) {
             return CAPACITY_EXCEEDED;
         }
-        history.record(house);
+        history.keep(house);
         int best = house.bestCar(floor, goal);
         int added = house.callers.add(floor, goal, house.tick);
         house.callers.give(added, best);
@@ -125,7 +125,7 @@ public final class GoalLifts {
         if (house.tick + ticks > LAST_TICK) {
             return ILLEGAL_STATE;
         }
-        history.record(house);
+        history.keep(house);
         for (int done = 0; done < ticks; done++) {
             house.oneTick();
         }
@@ -708,7 +708,7 @@ public final class GoalLifts {
             }
         }
 
-        void record(House house) {
+        void keep(House house) {
             House kept = states[next];
             if (kept == null) {
                 return;
