@@ -216,6 +216,13 @@ public final class EdgesOfForecastsTest {
         lifts.hold(0, 1);
         CHECK.due("the car is held", lifts.thereIn(1), Check.NONE);
         CHECK.due("without cars", Houses.call(new GoalLifts(), 1, 0, 9).thereIn(0), Check.NONE);
+        GoalLifts high = Houses.with(6, 15, 1);
+        high.call(5, 9);
+        high.call(9, 5);
+        high.call(9, 6);
+        CHECK.due("from below the zone", high.thereIn(0), Check.NONE);
+        CHECK.due("to below the zone", high.thereIn(1), Check.NONE);
+        CHECK.due("to the lowest floor of the zone", high.thereIn(2), 8);
     }
 
     /** The hour in the forecast goes round behind the hour 23. */

@@ -18,6 +18,7 @@ public final class EdgesOfTimeTest {
         passCountsThoseThere();
         undoEmpty();
         undoOfEachAction();
+        undoRestoresCallersAndCars();
         undoToTheFirstState();
         undoDropsTheOldest();
         undoAfterUndo();
@@ -206,21 +207,62 @@ public final class EdgesOfTimeTest {
         for (int action = 0; action < 7; action++) {
             GoalLifts before = Houses.undoAll(Houses.busy());
             GoalLifts lifts = Houses.undoAll(Houses.busy());
-            lifts.fail(0);
-            before.fail(0);
+            before.addCar(0, 15, 1);
+            lifts.addCar(0, 15, 1);
             switch (action) {
-                case 0 -> lifts.addCar(0, 15, 1);
+                case 0 -> lifts.addCar(3, 15, 1);
                 case 1 -> lifts.setAwake(1, 1);
                 case 2 -> lifts.hold(1, 0);
                 case 3 -> lifts.fail(1);
                 case 4 -> lifts.repair(2);
                 case 5 -> lifts.call(0, 1);
-                default -> lifts.pass(1);
+                default -> lifts.pass(200);
             }
             CHECK.due("states after the action " + action, lifts.count(13), 2);
             CHECK.due("undo() of the action " + action, lifts.undo(), 1);
             CHECK.dueAll("seen after undo() of the action " + action, Check.seen(lifts), Check.seen(before));
             CHECK.due("undo() of the one before", lifts.undo(), 0);
+        }
+    }
+
+    /** "a state is everything but the history": what ticks and failures have changed comes back. */
+    private static void undoRestoresCallersAndCars() {
+        GoalLifts lifts = Houses.with(0, 15, 1, 0, 15, 1);
+        lifts.hold(1, 1);
+        lifts.call(1, 3);
+        lifts.pass(2);
+        int[] rode = {1, 3, 2, 0, 0, 1, Check.NONE, 1};
+        lifts.pass(50);
+        lifts.undo();
+        caller(lifts, "after undo() of the ticks", rode);
+        lifts.pass(1);
+        lifts.hold(1, 0);
+        lifts.fail(0);
+        lifts.pass(50);
+        caller(lifts, "there by the other car", 2, 3, 3, 1, 0, 5, 7, 2);
+        CHECK.due("floors travelled", lifts.car(0, 6) * 10 + lifts.car(1, 6), 23);
+        CHECK.due("stops made", lifts.count(10), 3);
+        lifts.undo();
+        caller(lifts, "looking after the failure", 2, 3, 0, Check.NONE, 0, 1, Check.NONE, 1);
+        CHECK.due("floors travelled", lifts.car(0, 6) * 10 + lifts.car(1, 6), 20);
+        CHECK.due("stops made", lifts.count(10), 1);
+        CHECK.due("failed", lifts.car(0, 1), 2);
+        lifts.undo();
+        caller(lifts, "riding before the failure", rode);
+        CHECK.due("ready", lifts.car(0, 1), 0);
+        lifts.undo();
+        CHECK.due("held", lifts.car(1, 1), 1);
+        lifts.undo();
+        CHECK.due("floors travelled", lifts.count(9), 1);
+        lifts.undo();
+        caller(lifts, "before the ticks", 1, 3, 1, 0, 0, Check.NONE, Check.NONE, 1);
+        CHECK.due("tick", lifts.count(0), 0);
+        CHECK.due("stops made", lifts.count(10), 0);
+    }
+
+    private static void caller(GoalLifts lifts, String when, int... due) {
+        for (int what = 0; what <= 7; what++) {
+            CHECK.due("caller(0, " + what + ") " + when, lifts.caller(0, what), due[what]);
         }
     }
 
