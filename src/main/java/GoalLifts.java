@@ -625,7 +625,7 @@ public final class GoalLifts {
         }
 
         int hour() {
-            return Math.floorMod(tick / TICKS_PER_HOUR, HOURS);
+            return tick / TICKS_PER_HOUR % HOURS;
         }
 
         boolean isAwake(int car) {
